@@ -7,7 +7,8 @@ final class RandomTexts {
     private static final String[] ANY = {"places", "person", "blind", "thing", "by", "term", "shames", "returns", "or",
         "and", "not", "odd", "shame", "many", "foo", ";", "(", ")", "+", "-", "*", "/", "<", "=", "0", "1", "7", "10",
         "31", "100", "9999", "12345", "00001", "x", "A", "\n", "\t", ",", "not not not not not not not 1", "((((((1))))))",
-        "(((((1)))))", ">", "\u00e9", "2"};
+        "(((((1)))))", ">", "\u00e9", "2", ";term 3;", ";term 3;", ";places 2;", ";shames 1;", ";returns 0;",
+        "places 6;", ";person 1 0;", ";thing 1 1 0 by 1;", ";thing 1 1 1 by 1;"};
 
     private final Random random;
 
@@ -113,6 +114,23 @@ final class RandomTexts {
             return Integer.toString(random.nextInt(random.nextInt(6) == 0 ? 10000 : 12));
         }
         return values[random.nextInt(values.length)];
+    }
+
+    /** A rule of tokens that are drawn one by one, mostly such as may follow, so that faults come late. */
+    String soup() {
+        StringBuilder s = new StringBuilder(random.nextBoolean() ? "shames " : "returns ");
+        String[] parts = {"1", "odd", "shame", "vanity", "day", "not ", "not not not ", "(", "((", "((("};
+        String[] behind = {"+", "-", "*", "/", "<", "=", " and ", " or ", ")", "))", ";"};
+        boolean due = true;
+        for (int i = 0; i < 40 && s.charAt(s.length() - 1) != ';'; i++) {
+            if (random.nextInt(25) == 0) {
+                s.append(ANY[random.nextInt(ANY.length)]);
+            }
+            String token = due ? parts[random.nextInt(parts.length)] : behind[random.nextInt(behind.length)];
+            s.append(token);
+            due = due ? token.charAt(0) == '(' || token.startsWith("not") : token.charAt(0) != ')';
+        }
+        return s.toString();
     }
 
     String spoil(String text) {
