@@ -196,6 +196,7 @@ public final class PromisesTest {
         fault("personx 0 0;", 1, 0);
         fault("Person 0 0;", 1, 0);
         fault("\u00e9", 1, 0);
+        fault("glaces 2;", 1, 0);
         fault("places", 1, 6);
         fault("places  ", 1, 8);
         fault("places 2", 1, 8);
@@ -253,6 +254,9 @@ public final class PromisesTest {
         fault("shames 1 12345;", 1, 9);
         fault("shames 1 x;", 1, 9);
         fault("shames x;", 3, 7);
+        fault("shames z;", 3, 7);
+        fault("shames oddz;", 3, 7);
+        fault("shames add;", 3, 7);
         fault("shames shame;", 3, 7);
         fault("shames many;", 3, 7);
         fault("returns odd;", 3, 8);
@@ -773,6 +777,29 @@ public final class PromisesTest {
         due("none", x.ask(1), 0);
         due("no things", of("person 0 0;").ask(0), -1);
         due("of like ones the least", of("person 0 0;thing 1 0 0;thing 1 0 0;").ask(0), 0);
+        // shame is 36 behind 9 days and 40 behind 10 by vanity 6, 30 behind 10 by vanity 7
+        WornThings y = of("person 0 1;person 3 0;person 0 0;thing 1 9 2;thing 1 9 2 by 1;term 99;");
+        due("the second one's", y.ask(0), 1);
+        due("given back, or not", y.ask(1), 2);
+        y.note(1, 9, true);
+        y.note(1, 10, false);
+        due("vanity 6 and no other of person 1", y.vain(0), 1);
+        due("which", y.vain(1), 16);
+        due("one alone is unlike none", y.ask(1), 1);
+        due("the least thing", y.ask(0), 0);
+        y.forget();
+        y.note(1, 10, true);
+        due("vanity 7 to 9", y.vain(0), 3);
+        y.dye(1, 8);
+        // shame is 36 behind 12 days by vanity 6, 40 behind 10 by vanity 5
+        due("vanity 6 to 9", y.vain(0), 4);
+        WornThings z = of("person 0 0;person 0 0;thing 1 0 1 by 0;thing 1 0 0 by 1;term 99;shames 0;returns day=10 and vanity=3;");
+        due("behind 10 days, not 11", z.ask(1), 1);
+        WornThings u = of("person 0 0;person 0 0;thing 1 0 1 by 0;thing 1 0 0 by 1;term 99;shames 0;returns day=9 and vanity=3;");
+        due("behind 10 days", u.ask(1), 2);
+        due("of like ones the least", u.ask(0), 0);
+        WornThings v = of("person 0 0;person 0 0;person 3 0;thing 1 0 2 by 1;term 99;shames 0;returns day=2*vanity;");
+        due("given back on another day is alike", v.ask(1), 2);
         none("what 2", () -> x.ask(2));
         none("what -1", () -> x.ask(-1));
     }
@@ -806,6 +833,14 @@ public final class PromisesTest {
         WornThings z = of("person 9 0;person 9 0;thing 1 0 1 by 0;thing 1 0 0 by 1;term 99;");
         due("all rest", z.game(0, 1, 0), 4);
         due("first", z.game(1, 0, 1), 0);
+        // own behind 12 days shame is 36 less 2: an eighth is 4, as much as the thing is worth
+        String both = "person 0 0;person 0 0;thing 1 0 1 by 0;thing 1 0 0 by 1;returns 0;shames 3;";
+        due("own behind 12 days", of(both + "term 12;").game(0, 1, 0), 4);
+        due("own behind 13 days", of(both + "term 13;").game(0, 1, 0), 1);
+        due("own behind 13 days", of(both + "term 13;").game(0, 1, 1), 11);
+        due("own behind 11 days", of(both + "term 11;").game(0, 1, 0), 1);
+        due("own behind 8 days", of(both + "term 8;").game(0, 1, 0), 1);
+        due("own behind 8 days", of(both + "term 8;").game(0, 1, 1), 0);
         none("person", () -> x.game(3, 3, 0));
         none("other", () -> x.game(0, 3, 0));
         none("what ahead", () -> x.game(0, 0, 2));
@@ -888,6 +923,9 @@ public final class PromisesTest {
         due("now", x.shamed(0, 4), 0);
         WornThings y = of("person 0 0;person 0 1;thing 1 0 1 by 0;shames 1;returns 0;");
         due("99 behind 99", y.shamed(0, 99), 99);
+        String once = "person 0 0;person 0 1;thing 1 0 1 by 0;returns 0;shames day=";
+        due("behind 100", of(once + "99;").shamed(0, 1), 100);
+        due("behind 101", of(once + "100;").shamed(0, 1), -1);
         none("person ahead", () -> x.shamed(3, 0));
         illegal("0", () -> x.shamed(0, 0));
         illegal("100", () -> x.shamed(0, 100));
@@ -957,5 +995,30 @@ public final class PromisesTest {
         x.days(1);
         due("another one", x.restore() ? 1 : 0, 1);
         due("day", x.count(4), 3);
+        imageOfActsAndNotes();
+    }
+
+    private static void imageOfActsAndNotes() {
+        WornThings x = of("person 5 0;person 0 0;thing 1 9 1;thing 1 9 1 by 0;term 9;");
+        for (int i = 1; i <= 43; i++) {
+            x.dye(0, i % 10);
+        }
+        x.note(1, 8, true);
+        x.image();
+        x.forget();
+        x.note(0, 0, false);
+        x.note(0, 3, false);
+        for (int i = 0; i < 50; i++) {
+            x.dye(0, 5);
+        }
+        due("all is so by the others", x.vain(0), 18);
+        x.restore();
+        due("vanity 6 to 9 alone", x.vain(0), 4);
+        due("acts", x.count(8), 40);
+        for (int i = 42; i >= 3; i--) {
+            due("left", x.undo(), i - 3);
+            due("odd as it was", x.thing(0, 1), i % 10);
+        }
+        due("none is left", x.undo(), -1);
     }
 }

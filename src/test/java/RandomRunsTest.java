@@ -3,6 +3,8 @@ import java.util.Random;
 
 /** Runs of random calls, by fixed seeds, on the class and on PlainModel: each answer must be the same. */
 public final class RandomRunsTest {
+    private static final int[] STRANGE = {Integer.MIN_VALUE, -102, -3, -2, -1, 0, 1, 2, 3, 4, 5, 6, 7, 8, 9, 10, 11, 13, 14,
+        20, 21, 30, 31, 32, 99, 100, 101, 102, 9999, 65536, 1 << 30, Integer.MAX_VALUE};
     private static int wrong;
 
     private interface Call {
@@ -70,12 +72,12 @@ public final class RandomRunsTest {
     private static boolean one(Random random, WornThings x, PlainModel y, StringBuilder told, int seed) {
         int people = x.count(1);
         int things = x.count(2);
-        int p = random.nextInt(30) == 0 ? random.nextInt(12) - 2 : random.nextInt(Math.max(1, people));
-        int q = random.nextInt(30) == 0 ? random.nextInt(12) - 2 : random.nextInt(Math.max(1, people));
-        int t = random.nextInt(30) == 0 ? random.nextInt(14) - 2 : random.nextInt(Math.max(1, things));
-        int d = random.nextInt(30) == 0 ? random.nextInt(3) * 102 - 102 : random.nextInt(random.nextBoolean() ? 15 : 101);
-        int w = random.nextInt(30) == 0 ? random.nextInt(20) - 3 : random.nextInt(3);
-        int w2 = random.nextInt(30) == 0 ? w : random.nextInt(2);
+        int p = strange(random, random.nextInt(Math.max(1, people)));
+        int q = strange(random, random.nextInt(Math.max(1, people)));
+        int t = strange(random, random.nextInt(Math.max(1, things)));
+        int d = strange(random, random.nextInt(random.nextBoolean() ? 15 : 101));
+        int w = strange(random, random.nextInt(3));
+        int w2 = strange(random, random.nextInt(2));
         int n = random.nextInt();
         boolean b = random.nextBoolean();
         String a = p + " " + q + " " + t + " " + d + " " + w + " " + w2 + " " + n + " " + b;
@@ -83,7 +85,7 @@ public final class RandomRunsTest {
             case 0: return same(seed, told, "count " + (n & 15), () -> x.count(n & 15), () -> y.count(n & 15));
             case 1: return same(seed, told, "person " + p + " " + (n & 15), () -> x.person(p, n & 15), () -> y.person(p, n & 15));
             case 2: return same(seed, told, "thing " + t + " " + (n & 7), () -> x.thing(t, n & 7), () -> y.thing(t, n & 7));
-            case 3: return same(seed, told, "days " + d % 25, () -> x.days(d % 25), () -> y.days(d % 25));
+            case 3: return same(seed, told, "days " + d % 25, () -> x.days(d > 25 && d < 100 ? d % 25 : d), () -> y.days(d > 25 && d < 100 ? d % 25 : d));
             case 4: case 5: case 6: case 7: return same(seed, told, "steal " + a, () -> x.steal(p, t), () -> y.steal(p, t));
             case 8: return same(seed, told, "back " + a, () -> x.back(t), () -> y.back(t));
             case 9: return same(seed, told, "walk " + a, () -> x.walk(p, (n & 3) - (n >> 9 & 1 & n >> 8), (n >>> 4) % 4), () -> y.walk(p, (n & 3) - (n >> 9 & 1 & n >> 8), (n >>> 4) % 4));
@@ -100,7 +102,7 @@ public final class RandomRunsTest {
             case 23: case 24: return same(seed, told, "least " + a, () -> x.least(t), () -> y.least(t));
             case 25: return same(seed, told, "least -1", () -> x.least(-1), () -> y.least(-1));
             case 26: return same(seed, told, "whose " + a, () -> x.whose(p), () -> y.whose(p));
-            case 27: return same(seed, told, "note " + a, () -> x.note(t, d % 32, b), () -> y.note(t, d % 32, b));
+            case 27: return same(seed, told, "note " + a, () -> x.note(t, d > 32 && d < 100 ? d % 32 : d, b), () -> y.note(t, d > 32 && d < 100 ? d % 32 : d, b));
             case 28: return same(seed, told, "forget", () -> { x.forget(); return 0; }, () -> { y.forget(); return 0; });
             case 29: return same(seed, told, "vain " + a, () -> x.vain(w), () -> y.vain(w));
             case 30: return same(seed, told, "ask " + a, () -> x.ask(w2), () -> y.ask(w2));
@@ -118,6 +120,10 @@ public final class RandomRunsTest {
             case 44: return same(seed, told, "restore", () -> x.restore() ? 1 : 0, () -> y.restore() ? 1 : 0);
             default: return same(seed, told, "all things", () -> all(x), () -> all(y));
         }
+    }
+
+    private static int strange(Random random, int usual) {
+        return random.nextInt(30) == 0 ? STRANGE[random.nextInt(STRANGE.length)] : usual;
     }
 
     private static long all(WornThings x) {
