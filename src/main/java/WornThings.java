@@ -12,6 +12,7 @@ public final class WornThings {
     private static final int MOST_PEOPLE = 8;
     private static final int MOST_THINGS = 10;
     private static final int MOST_STEPS = 6;
+    private static final int MOST_PLACES = 6;
     private static final int MOST_BYTES = 700;
     private static final int MOST_DAYS = 100;
     private static final int LAST_DAY = 9999;
@@ -721,7 +722,7 @@ public final class WornThings {
             if (placesTold) {
                 return fail(5);
             }
-            if (!nextIsWithin(2, 6)) {
+            if (!nextIsWithin(2, MOST_PLACES)) {
                 return false;
             }
             city.places = number;
@@ -1009,6 +1010,8 @@ public final class WornThings {
         final int[] wearer = new int[MOST_THINGS];
         // a thing's DAYS: those on which somebody looked at who wears it
         final int[] seen = new int[MOST_THINGS];
+        // who looks at each place on the day that lookAround was asked for, as bits
+        private final int[] sight = new int[MOST_PLACES];
         // how many things each one still wears in the evening
         private final int[] many = new int[MOST_PEOPLE];
         private final int[] values = new int[Rule.VALUES];
@@ -1084,9 +1087,10 @@ public final class WornThings {
         }
 
         void passDay(boolean foggy) {
+            lookAround(day);
             for (int t = 0; t < city.things; t++) {
                 if (wearer[t] != NONE) {
-                    wearForADay(t, foggy ? 0 : lookersOn(wearer[t], day));
+                    wearForADay(t, foggy ? 0 : lookersAt(wearer[t], day));
                 }
             }
             countWorn();
@@ -1187,15 +1191,22 @@ public final class WornThings {
             return steps < 1 || onDay < 0 ? 0 : walk[person * MOST_STEPS + onDay % steps];
         }
 
-        int lookersOn(int person, int onDay) {
-            int place = placeOn(person, onDay);
-            int bits = 0;
+        private void lookAround(int onDay) {
+            Arrays.fill(sight, 0);
             for (int p = 0; p < city.people; p++) {
-                if (p != person && city.blind[p] == 0 && placeOn(p, onDay) == place) {
-                    bits |= 1 << p;
+                if (city.blind[p] == 0) {
+                    sight[placeOn(p, onDay)] |= 1 << p;
                 }
             }
-            return bits;
+        }
+
+        private int lookersAt(int person, int onDay) {
+            return sight[placeOn(person, onDay)] & ~(1 << person);
+        }
+
+        int lookersOn(int person, int onDay) {
+            lookAround(onDay);
+            return lookersAt(person, onDay);
         }
 
         int firstTogether(int person, int other) {
