@@ -1,18 +1,5 @@
-import java.util.NoSuchElementException;
-
 /** For each promise: ordinary inputs, the edges that the document names, wrong inputs. */
-public final class PromisesTest {
-    private static int wrong;
-    private static int checks;
-
-    private interface Call {
-        long answer();
-    }
-
-    /** Person 0 walks 0 1, person 1 stays at 0, the blind person 2 walks 1 0; things 0 and 2 are worn. */
-    private static final String SMALL = "places 3;person 1 0 1;person 3 0;blind 2 1 0;"
-        + "thing 5 4 1 by 0;thing 10 6 0;thing 3 2 2 by 1;term 3;";
-
+public final class PromisesTest extends Checks {
     public static void main(String[] args) {
         newObject();
         feed();
@@ -54,70 +41,7 @@ public final class PromisesTest {
         takes();
         quiet();
         imageAndRestore();
-        System.out.println("PromisesTest: " + checks + " checks, " + wrong + " wrong");
-        if (wrong > 0) {
-            System.exit(1);
-        }
-    }
-
-    private static void due(String what, long got, long want) {
-        checks++;
-        if (got != want) {
-            wrong++;
-            System.out.println(what + " answered " + got + ", due is " + want);
-        }
-    }
-
-    private static void none(String what, Call call) {
-        due(what + " throws NoSuchElementException", thrown(call), 1);
-    }
-
-    private static void illegal(String what, Call call) {
-        due(what + " throws IllegalArgumentException", thrown(call), 2);
-    }
-
-    private static int thrown(Call call) {
-        try {
-            call.answer();
-            return 0;
-        } catch (NoSuchElementException e) {
-            return e.getClass() == NoSuchElementException.class ? 1 : 3;
-        } catch (IllegalArgumentException e) {
-            return e.getClass() == IllegalArgumentException.class ? 2 : 3;
-        }
-    }
-
-    private static int number(String s, int at) {
-        int n = 0;
-        for (int i = at; i < at + 4; i++) {
-            n = n << 8 | (i < s.length() ? s.charAt(i) & 255 : ' ');
-        }
-        return n;
-    }
-
-    private static int tell(WornThings x, String text) {
-        for (int i = 0; i < text.length(); i += 20) {
-            x.feed(number(text, i), number(text, i + 4), number(text, i + 8), number(text, i + 12), number(text, i + 16));
-        }
-        return x.city(text.length());
-    }
-
-    private static WornThings of(String text) {
-        WornThings x = new WornThings();
-        due("city of " + text, tell(x, text), 0);
-        due("fault of " + text, x.fault(), -1);
-        return x;
-    }
-
-    private static void fault(String text, int code, int place) {
-        WornThings x = new WornThings();
-        due("city of " + text, tell(x, text), code);
-        due("fault of " + text, x.fault(), place);
-        due("texts refused", x.count(11), 1);
-    }
-
-    private static String times(String s, int n) {
-        return s.repeat(n);
+        finish("PromisesTest");
     }
 
     private static void newObject() {
@@ -301,12 +225,6 @@ public final class PromisesTest {
             deep = "1 or 1 and " + times("not ", 6) + "1<1+1*(" + deep + ")";
         }
         of("shames " + deep + ";");
-    }
-
-    /** What a rule gives, seen as the shame of the one thing that is worn. */
-    private static void gives(String rule, int want) {
-        WornThings x = of("person 3 0;person 0 0;person 0 0;thing 5 2 1 by 0;shames " + rule + ";");
-        due("shames " + rule, x.thing(0, 5), want);
     }
 
     private static void rules() {
