@@ -1835,9 +1835,6 @@ public final class WornThings {
                     }
                 }
             }
-            if (wornMany > now.city.people) {
-                left[0] = TOO_MUCH;
-            }
         }
 
         private static boolean canGo(Town now, int thing, int person, int taken) {

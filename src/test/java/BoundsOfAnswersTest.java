@@ -533,6 +533,14 @@ public final class BoundsOfAnswersTest extends Checks {
         }
         none("no such thing", () -> x.least(4));
         none("-2", () -> x.least(-2));
+        // the only way is crosswise
+        WornThings cross = of(two + "thing 1 0 0 by 1;thing 1 0 1 by 0;");
+        due("how much", cross.least(-1), 0);
+        due("to whom", cross.least(0) * 10 + cross.least(1), 10);
+        x.back(2);
+        due("two to two, behind three to two", x.least(-1), 0);
+        x.undo();
+        due("three to two again", x.least(-1), -2);
         due("two of one owner to two", of(two + "thing 1 0 1 by 0;thing 1 0 1 by 0;").least(-1), -2);
         due("two of one owner to three", of(two + "person 0 0;thing 1 0 1 by 0;thing 1 0 1 by 0;").least(-1), 0);
         due("eight of one owner to eight", of(times("person 0 0;", 8) + times("thing 1 0 7 by 0;", 8)).least(-1), -2);
@@ -600,6 +608,12 @@ public final class BoundsOfAnswersTest extends Checks {
         due("all so", y.vain(2), 1);
         y.note(0, 0, false);
         due("not the eighth", y.vain(2), 0);
+        WornThings z = of(SMALL);
+        z.note(1, 0, false);
+        z.note(2, 0, true);
+        due("each of its thing", z.vain(2), 1);
+        z.note(1, 0, true);
+        due("not so", z.vain(2), 0);
     }
 
     private static void daysOfNotes() {
@@ -721,6 +735,11 @@ public final class BoundsOfAnswersTest extends Checks {
         due("two", z.ask(1), 2);
         WornThings last = of("person 5 0;person 0 0;" + times("thing 1 0 1;", 9) + "thing 1 0 1 by 0;" + rule + "vanity=3;");
         due("the last one", last.ask(0), 9);
+        String eight = times("person 5 0;", 7) + "person 5 1;thing 1 0 0 by 7;shames 0;returns vanity=";
+        due("the last one's least vanity", of(eight + "0;").ask(1), 2);
+        due("the last one's greatest vanity", of(eight + "9;").ask(1), 2);
+        due("the one that the last one has, by others' vanities", of(eight + "5;").ask(1), 2);
+        due("one that nobody has", of(eight + "10;").ask(1), 1);
         none("what -1", () -> x.ask(-1));
         none("what 2", () -> x.ask(2));
     }
@@ -1030,6 +1049,8 @@ public final class BoundsOfAnswersTest extends Checks {
         illegal("0", () -> x.walks(0, 1));
         illegal("101", () -> x.walks(101, 1));
         due("never", of(ALONE).walks(100, 1), 1);
+        due("seen on the first day", of(SEEN).walks(1, 1), 0);
+        due("seen on the first day alone", of("person 0 0;person 0 0 1 1 1 1 1;thing 1 0 1 by 0;").walks(5, 1), 0);
         due("only who wears something now", of("person 0 0;person 0 1;thing 1 0 1;").walks(1, 1), 0);
         due("the blind don't look", of("person 0 0;blind 0 0;thing 1 0 1 by 0;").walks(100, 1), 1);
         due("nobody", new WornThings().walks(1, 1), 0);

@@ -251,6 +251,12 @@ public final class BoundsOfDaysTest extends Checks {
         due("shame 0", x.person(0, 2), 0);
         due("the second one's stays", x.person(1, 2), 20);
         due("its days", x.thing(2, 4), 1);
+        WornThings y = of("person 3 0;person 5 1;thing 1 0 1 by 0;thing 1 0 0 by 1;shames 7;returns vanity=3;");
+        y.days(1);
+        due("by the vanity of each", y.count(5), 2);
+        WornThings z = of("person 3 0;person 5 1;thing 1 0 1 by 0;thing 1 0 0 by 1;shames 7;returns vanity=5;");
+        z.days(1);
+        due("by the vanity of each", z.count(5), 1);
     }
 
     private static void twoLess() {
@@ -505,6 +511,48 @@ public final class BoundsOfDaysTest extends Checks {
         due("not own", own.thing(0, 2), 1);
         due("worn", own.thing(0, 3), 0);
         due("no shame", own.person(0, 2), 0);
+        greatestNumbers();
+    }
+
+    /** All numbers as great as they may be come back by UNDO and by the image. */
+    private static void greatestNumbers() {
+        String text = "places 6;" + times("person 9 5 5 5 5 5 5;", 8) + times("thing 30 9 7 by 6;", 9) + "thing 30 9 6 by 7;"
+            + "term 99;shames 20;returns 0;";
+        WornThings x = of(text);
+        WornThings y = of(text);
+        for (int i = 0; i < 5; i++) {
+            x.days(i < 4 ? 20 : 18);
+            y.days(i < 4 ? 20 : 18);
+        }
+        due("98 days", x.thing(9, 4), 98);
+        due("99 of shame", x.person(6, 2), 99);
+        x.image();
+        y.image();
+        for (int p = 0; p < 8; p++) {
+            x.walk(p, p % 6, 0);
+        }
+        x.dye(9, 0);
+        x.days(1);
+        due("own", x.thing(9, 2), 7);
+        for (int i = 0; i < 10; i++) {
+            x.undo();
+        }
+        due("as many acts", x.count(8), 5);
+        for (int round = 0; round < 2; round++) {
+            for (int p = 0; p < 8; p++) {
+                due("shame", x.person(p, 2), y.person(p, 2));
+                for (int k = 1; k <= 6; k++) {
+                    due("place", x.where(p, k, 0), 5);
+                }
+            }
+            for (int t = 0; t < 10; t++) {
+                for (int what = 1; what <= 4; what++) {
+                    due("thing", x.thing(t, what), y.thing(t, what));
+                }
+            }
+            x.days(1);
+            due("restored", x.restore() ? 1 : 0, 1);
+        }
     }
 
     private static void noneToUndo() {
@@ -600,6 +648,35 @@ public final class BoundsOfDaysTest extends Checks {
         due("forty again", forty.count(8), 40);
         due("left", forty.undo(), 39);
         due("the forty-second", forty.thing(0, 1), 2);
+        otherActsAndNotes();
+    }
+
+    /** What comes behind the image takes the room of its acts and of what is noted, and all of it comes back. */
+    private static void otherActsAndNotes() {
+        WornThings x = of("person 5 0;person 0 1;thing 1 9 1;thing 1 9 1 by 0;");
+        for (int i = 1; i <= 43; i++) {
+            x.dye(0, i % 10);
+        }
+        // shame is 4 a day: given back behind 10 days
+        x.note(1, 9, true);
+        x.note(1, 10, false);
+        x.image();
+        x.forget();
+        x.note(0, 0, false);
+        x.note(0, 3, true);
+        due("another thing is noted", x.vain(2), 0);
+        for (int i = 0; i < 55; i++) {
+            x.dye(0, 5);
+        }
+        x.restore();
+        due("so without", x.vain(2), 1);
+        due("the other one's nine", x.vain(0), 9);
+        due("acts", x.count(8), 40);
+        for (int i = 42; i >= 3; i--) {
+            due("left", x.undo(), i - 3);
+            due("odd as it was", x.thing(0, 1), i % 10);
+        }
+        due("none is left", x.undo(), -1);
     }
 
     private static void noImage() {

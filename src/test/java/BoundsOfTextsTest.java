@@ -207,6 +207,13 @@ public final class BoundsOfTextsTest extends Checks {
         fault("shames odd{;", 1, 10);
         fault("shames oddz;", 3, 7);
         fault("shames odda;", 3, 7);
+        fault("shames z;", 3, 7);
+        fault("shames a;", 3, 7);
+        fault("shames add;", 3, 7);
+        fault("shames oda;", 3, 7);
+        fault("glaces 2;", 1, 0);
+        fault("placet 2;", 1, 0);
+        fault("place 2;", 1, 0);
     }
 
     private static void numbers() {
@@ -321,6 +328,8 @@ public final class BoundsOfTextsTest extends Checks {
         gives("20/(3/2)", 20);
         gives("5/2*2", 4);
         gives("5*2/2", 5);
+        gives("2*3/4", 1);
+        gives("7/4*3", 3);
         gives("2+3*4", 14);
         gives("2*3+4", 10);
         gives("10-2*3-1", 3);
@@ -379,6 +388,13 @@ public final class BoundsOfTextsTest extends Checks {
         gives("4=5", 0);
         gives("0-1<0", 1);
         gives("(3<4)+(4=4)+(not 0)", 3);
+        gives("5+(0 or 0)", 5);
+        gives("5+(7 or 0)", 6);
+        gives("5+(0 and 7)", 5);
+        gives("5+(7 and 7)", 6);
+        gives("5+(4<4)", 5);
+        gives("5+(4=3)", 5);
+        gives("5+(not 7)", 5);
     }
 
     private static void valuesOfShames() {
@@ -739,6 +755,46 @@ public final class BoundsOfTextsTest extends Checks {
         tell(y, "person 0 0;person 0 0;thing 1 9 1 by 0;");
         due("no rule any more", y.thing(0, 5), 10);
         due("no other rule any more", y.when(0, 1), 4);
+        againAndAgain();
+    }
+
+    /** Whatever was told ahead, with a fault or without, each text is read as if it were the first. */
+    private static void againAndAgain() {
+        WornThings x = new WornThings();
+        String people = "places 5;term 7;shames 3;returns 1;" + times("blind 9 4 4;", 8) + times("thing 30 9 7 by 6;", 10);
+        String few = "places 4;term 8;shames 4;returns 0;person 1 3;person 2 0 1;thing 5 6 0;thing 4 3 1 by 0;";
+        for (int i = 0; i < 6; i++) {
+            due("many", tell(x, people), 0);
+            due("with a fault at the end", tell(x, few + "x"), 1);
+            due("many stay", x.count(1) * 100 + x.count(2), 810);
+            due("few", tell(x, few), 0);
+            due("people and things", x.count(1) * 100 + x.count(2), 202);
+            due("places and term", x.count(0) * 100 + x.count(3), 408);
+            due("not blind", x.person(0, 3), 0);
+            due("not worn", x.thing(0, 3), -1);
+            due("worn", x.thing(1, 3), 0);
+            due("rule", x.thing(1, 5), 4);
+            due("other rule", x.when(1, 1), -1);
+            due("a walk of one", x.where(0, 2, 0), 3);
+            due("with a fault at the end", tell(x, people + "x"), 1);
+            due("nothing", tell(x, ""), 0);
+            due("nobody", x.count(1) + x.count(2), 0);
+            due("without", x.count(0) * 100 + x.count(3), 310);
+        }
+        rulesAgainAndAgain();
+    }
+
+    private static void rulesAgainAndAgain() {
+        WornThings x = new WornThings();
+        due("within six others", tell(x, "shames 1+((((((1"), 2);
+        due("within five others", tell(x, TWO + "thing 1 0 1 by 0;shames (((((9)))))*2;"), 0);
+        due("what it gives", x.thing(0, 5), 18);
+        due("seven of them", tell(x, "shames " + times("not ", 7)), 2);
+        due("six of them", tell(x, TWO + "thing 1 0 1 by 0;shames " + times("not ", 6) + "9;"), 0);
+        due("what it gives", x.thing(0, 5), 1);
+        due("ends too soon", tell(x, "shames 1 or 2<3*(1+"), 1);
+        due("ends well", tell(x, TWO + "thing 1 0 1 by 0;shames 2+3*4-1;"), 0);
+        due("what it gives", x.thing(0, 5), 13);
     }
 
     private static void allStays() {
@@ -766,6 +822,17 @@ public final class BoundsOfTextsTest extends Checks {
         due("noted", x.count(9), 0);
         due("image", x.restore() ? 1 : 0, 0);
         due("day", x.count(4), 0);
+        due("the same people", tell(x, SMALL), 0);
+        for (int i = 0; i < 3; i++) {
+            due("no shame", x.person(i, 2), 0);
+            due("no days", x.thing(i, 4), 0);
+        }
+        x.days(3);
+        due("shame and days", x.person(0, 2) > 0 && x.thing(0, 4) > 0 ? 1 : 0, 1);
+        due("the same people", tell(x, SMALL), 0);
+        due("shame", x.count(7), 0);
+        due("days", x.thing(0, 4), 0);
+        due("owner", x.thing(0, 2), 1);
         due("status 0", x.count(11), texts);
         due("status 1", x.count(12), acts);
         due("status 2", x.count(13), notes);
