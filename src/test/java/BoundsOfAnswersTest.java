@@ -183,6 +183,11 @@ public final class BoundsOfAnswersTest extends Checks {
         x.steal(0, 3);
         due("the last one", x.person(0, 8), 3);
         due("who wears nothing", x.person(1, 8), -1);
+        WornThings ten = of("person 0 0;person 0 0;" + times("thing 1 8 1 by 0;", 9) + "thing 1 9 1 by 0;");
+        due("the tenth", ten.person(0, 8), 9);
+        ten.dye(9, 8);
+        due("of ten like ones the least", ten.person(0, 8), 0);
+        due("none of ten", ten.person(1, 8), -1);
     }
 
     private static void shamesOfThisDay() {
